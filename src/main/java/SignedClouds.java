@@ -285,11 +285,17 @@ public final class SignedClouds {
         if (!isZeroOrOne(what)) {
             return BAD;
         }
-        int from = now.widestBlue();
-        if (what == 1) {
-            return from;
+        int shaded = now.shaded();
+        int most = 0;
+        int from = NONE;
+        for (int f = 0; f < FIELDS; f++) {
+            int many = blueFrom(f, shaded);
+            if (many > most) {
+                most = many;
+                from = f;
+            }
         }
-        return from == NONE ? 0 : now.blueFrom(from);
+        return what == 0 ? most : from;
     }
 
     public int leastTow(int fields, int n, int k) {
@@ -524,6 +530,15 @@ public final class SignedClouds {
     private static int turned(int fields, int n) {
         int far = ring(n);
         return (fields << far | fields >>> (FIELDS - far)) & ALL_FIELDS;
+    }
+
+    /** How many FIELDS from one on, side by side in the ring, are not shaded. */
+    private static int blueFrom(int field, int shaded) {
+        int many = 0;
+        while (many < FIELDS && (shaded >> ring(field + many) & 1) == 0) {
+            many++;
+        }
+        return many;
     }
 
     private static boolean isOfKind(int kind, int wanted) {
@@ -924,31 +939,13 @@ public final class SignedClouds {
             return fields;
         }
 
-        /** The first FIELD from which on the most are blue; NONE if none is. */
-        int widestBlue() {
-            int from = NONE;
-            int most = 0;
-            for (int f = 0; f < FIELDS; f++) {
-                int many = blueFrom(f);
-                if (many > most) {
-                    most = many;
-                    from = f;
-                }
-            }
-            return from;
-        }
-
-        /** How many FIELDS from one on are blue, side by side. */
-        int blueFrom(int field) {
-            int shaded = 0;
+        /** The FIELDS (bits) over which a CLOUD is. */
+        int shaded() {
+            int fields = 0;
             for (int c = 0; c < number; c++) {
-                shaded |= shade(c);
+                fields |= shade(c);
             }
-            int many = 0;
-            while (many < FIELDS && (shaded >> ring(field + many) & 1) == 0) {
-                many++;
-            }
-            return many;
+            return fields;
         }
 
         private boolean isPair(int cloud, int other) {
@@ -1067,17 +1064,11 @@ public final class SignedClouds {
             return then;
         }
 
-        /** One DAY more: how much falls in it on a FIELD. */
-        private int nextRain(int field) {
-            int before = then.fell[field];
-            then.passDay();
-            return then.fell[field] - before;
-        }
-
         int firstRain(int field) {
             begin();
             for (int d = 1; d <= FARTHEST; d++) {
-                if (nextRain(field) != 0) {
+                then.passDay();
+                if (then.fell[field] != 0) {
                     return d;
                 }
             }
@@ -1114,7 +1105,9 @@ public final class SignedClouds {
             begin();
             int from = 0;
             for (int d = 0; d < LAST_HARVEST + m && from <= LAST_HARVEST; d++) {
-                if (nextRain(field) != 0) {
+                int before = then.fell[field];
+                then.passDay();
+                if (then.fell[field] != before) {
                     from = d + 1;
                 } else if (d + 1 - from >= m) {
                     return from;
@@ -1150,7 +1143,9 @@ public final class SignedClouds {
         /** Does on each of n DAYS so much fall on a FIELD as the ROW tells? */
         private boolean fits(int field, int row, int i, int n) {
             for (int d = 0; d < n; d++) {
-                if (nextRain(field) != rows.item(row, i + d)) {
+                int before = then.fell[field];
+                then.passDay();
+                if (then.fell[field] - before != rows.item(row, i + d)) {
                     return false;
                 }
             }
