@@ -125,6 +125,9 @@ public final class ActsTest {
         c.due("GONE ones, too", x.silk(1), 20);
         c.due("both", x.count(2), 3);
         c.due("98 and 20", x.silk(0), Checks.FULL);
+        SignedClouds y = c.under("w0,20;m0,1,60,0;");
+        c.due("60 and 20", y.silk(0), 80);
+        c.due("80 and 20", y.silk(0), Checks.FULL);
     }
 
     private static void signing() {

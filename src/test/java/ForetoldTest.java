@@ -150,10 +150,26 @@ public final class ForetoldTest {
         SignedClouds y = c.under("w15,1;c1,1,3,0;");
         c.due("round the ring", y.leastTow(1 << 15 | 1 << 0, 3, -1), 0);
         c.due("against it", y.leastTow(1 << 2, 3, -1), 2);
+        c.due("not within 2 DAYS", y.leastTow(1 << 15 | 1 << 0, 1, -1), Checks.NONE);
+        farTow();
         SignedClouds z = c.under("w0,1;f4,1,1,0;f3,1,9,0;");
         z.days(1);
         c.due("a GONE one is not towed", z.leastTow(1 << 5, 1, 0), 0);
         c.due("the other is", z.leastTow(1 << 5, 1, 1), 2);
+    }
+
+    private static void farTow() {
+        SignedClouds x = c.under("w0,1;f0,1,9,0;f4,1,9,0;f8,1,9,0;f12,1,9,0;f13,1,9,0;");
+        int told = 1 << 3 | 1 << 7 | 1 << 11 | 1 << 15 | 1 << 0;
+        c.due("each as far as can be", x.leastTow(told, 1, -1), 15);
+        c.due("the last one, too", x.leastTow(told, 1, 4), 3);
+        SignedClouds bank = c.under("w0,1;b5,1,9,0;");
+        c.due("a bank in DAY 0", bank.leastTow(1 << 6, 1, -1), Checks.NONE);
+        c.due("a bank in DAYS 0 and 1", bank.leastTow(1 << 6, 2, -1), 1);
+        c.due("FIELD 0 is not near", bank.leastTow(1, 24, -1), Checks.NONE);
+        bank.days(1);
+        c.due("a bank in DAY 1", bank.leastTow(1 << 6, 1, 0), 1);
+        c.due("but 3 FIELDS on at most", bank.leastTow(1 << 9, 1, 0), Checks.NONE);
     }
 
     private static void whoAndPlaces() {
@@ -232,6 +248,7 @@ public final class ForetoldTest {
         c.due("none such", x.likeness(1, 5), Checks.BAD);
         c.due("estate 3", x.estate(3), 10 + 13 + 60 + 1);
         c.due("estate 4", x.estate(4), 10);
+        c.due("estate 0", x.estate(0), 0);
         c.due("estate 9", x.estate(9), 0);
         c.due("estate 10", x.estate(10), Checks.BAD);
         c.due("estate -1", x.estate(-1), Checks.BAD);
@@ -284,6 +301,9 @@ public final class ForetoldTest {
         y.silk(0);
         y.silk(0);
         c.due("as much as rains", y.drawn(1, 9, 0), 8);
+        SignedClouds z = c.under("w0,9;f0,8,1,0;");
+        c.due("one CLOUD, restored", z.drawn(1, 9, 0), 8);
+        c.due("not restored", z.drawn(1, 1, 0), 0);
     }
 
     private static void refusals() {

@@ -151,5 +151,13 @@ public final class RowsTest {
         c.due("places()", x.status(), 0);
         x.drop(6);
         c.due("drop() of a missing ROW", x.status(), 1);
+        x.set(0, 0, 1);
+        c.due("set()", x.status(), 0);
+        x.drop(6);
+        x.copy(0, 0, 0, 1, 1);
+        c.due("copy()", x.status(), 0);
+        x.drop(6);
+        x.drop(0);
+        c.due("drop()", x.status(), 0);
     }
 }
