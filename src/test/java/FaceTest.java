@@ -24,6 +24,7 @@ public final class FaceTest {
     private static int wrong;
 
     public static void main(String[] args) throws IOException {
+        constants();
         face();
         language();
         System.out.println(wrong + " wrong");
@@ -36,6 +37,18 @@ public final class FaceTest {
         if (is) {
             wrong++;
             System.out.println(what);
+        }
+    }
+
+    private static void constants() {
+        wrongIf(SignedClouds.NONE != -1000000, "NONE");
+        wrongIf(SignedClouds.BAD != -1000001, "BAD");
+        wrongIf(SignedClouds.STATE != -1000002, "STATE");
+        wrongIf(SignedClouds.FULL != -1000003, "FULL");
+        for (Field f : SignedClouds.class.getDeclaredFields()) {
+            boolean open = !Modifier.isPrivate(f.getModifiers());
+            int due = Modifier.PUBLIC | Modifier.STATIC | Modifier.FINAL;
+            wrongIf(open && (f.getModifiers() != due || f.getType() != int.class), "no constant: " + f);
         }
     }
 
@@ -53,6 +66,7 @@ public final class FaceTest {
                 names.add(m.getName());
                 boolean isLong = m.getReturnType() == long.class;
                 wrongIf(isLong != m.getName().equals("seen"), "answers another type: " + m);
+                wrongIf(m.getModifiers() != Modifier.PUBLIC, "is not public alone: " + m);
             }
         }
         wrongIf(!there.equals(new TreeSet<>(Set.of(FACE.split(" ")))), "the face is another: " + there);

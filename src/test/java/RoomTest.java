@@ -101,6 +101,7 @@ public final class RoomTest {
             sum += round(x);
         }
         long took = bean.getCurrentThreadAllocatedBytes() - start - empty;
-        c.due("bytes that eight rounds of all calls take (" + sum + ")", took, 0);
+        // the least object has 16 bytes: fewer than 8 times 16 are not even one in each round
+        c.due("eight rounds of all calls take " + took + " bytes (" + sum + ")", took < 8 * 16 ? 1 : 0, 1);
     }
 }
