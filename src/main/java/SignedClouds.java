@@ -526,10 +526,9 @@ public final class SignedClouds {
         return place & LAST_FIELD;
     }
 
-    /** The FIELDS (bits), each n on in the ring. */
+    /** The FIELDS (bits), each n on (0 to 15) in the ring. */
     private static int turned(int fields, int n) {
-        int far = ring(n);
-        return (fields << far | fields >>> (FIELDS - far)) & ALL_FIELDS;
+        return (fields << n | fields >>> (FIELDS - n)) & ALL_FIELDS;
     }
 
     /** How many FIELDS from one on, side by side in the ring, are not shaded. */

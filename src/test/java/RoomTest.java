@@ -10,7 +10,7 @@ import java.util.Set;
 
 /** What an object takes of the room: few objects as it is made, and none with its calls. */
 public final class RoomTest {
-    private static final int MOST_OBJECTS = 300, MOST_PARTS = 4000;
+    private static final int MOST_OBJECTS = 240, MOST_PARTS = 2100;
 
     private static final Checks c = new Checks();
     private int objects;
